@@ -844,11 +844,15 @@ public final class OnceStores {
                 makeAnew();
                 row = rows.rowOf(kind, digest);
             }
-            return row < 0 ? NOWHERE : rows.packs[row] * PACK_ROOM + rows.places[row];
+            return row < 0 ? NOWHERE : spotOf(row);
+        }
+
+        int spotOf(int row) {
+            return rows.packs[row] * PACK_ROOM + rows.places[row];
         }
 
         boolean isTrue(int row) {
-            return packs[rows.packs[row]].hasRight(rows.kinds[row], rows.digests[row], rows.places[row]);
+            return packOf(spotOf(row)).hasRight(rows.kinds[row], rows.digests[row], rows.places[row]);
         }
 
         void makeAnew() {
@@ -1134,10 +1138,11 @@ public final class OnceStores {
         boolean goThrough() {
             boolean whole = true;
             for (int i = 0; i < waiting && i < NAMED_ROOM; i++) {
-                whole &= kinds[i] == TREE ? meetTree(digests[i], levels[i]) : meetList(digests[i]);
-                if (!whole && !goesOn) {
+                boolean good = kinds[i] == TREE ? meetTree(digests[i], levels[i]) : meetList(digests[i]);
+                if (!good && !goesOn) {
                     return false;
                 }
+                whole = whole && good;
             }
             return whole;
         }

@@ -24,17 +24,17 @@ public final class PromisesTest {
         promise = "promise 4"; byteOf();
         promise = "promise 5"; compare();
         promise = "promise 6"; quota();
-        promise = "promise 7"; filePieces(); fileAnswers(); fileFull();
+        promise = "promise 7"; filePieces(); fileAnswers(); fileFull(); fileOfDigestZero();
         promise = "promise 8"; entry();
         promise = "promise 9"; sub();
         promise = "promise 10"; remove();
-        promise = "promise 11"; commitBlocks(); commitAnswers(); commitFull(); twentyHeads(); levels();
+        promise = "promise 11"; commitBlocks(); commitAnswers(); commitFull(); twentyHeads(); levels(); endsAtFirst();
         promise = "promise 12"; crash();
         promise = "promise 13"; drop();
         promise = "promise 14"; load(); loadOtherLength();
         promise = "promise 15"; head();
         promise = "promise 16"; owned();
-        promise = "promise 17"; cleanGoes(); cleanHalf(); cleanKeepsWork(); cleanFull();
+        promise = "promise 17"; cleanGoes(); cleanHalf(); cleanKeepsWork(); cleanKeepsLevels(); cleanFull();
         promise = "promise 18"; spoil();
         promise = "promise 19"; lie();
         promise = "promise 20"; anew();
@@ -317,6 +317,50 @@ public final class PromisesTest {
         due("with room", x.file(0, 0), 1);
         due("flushed to the least free", x.pack(3, 0), 599);
         due("the list behind it", x.pack(12, 0), 10);
+    }
+
+    /** A PIECE, cut nowhere but at its end, whose LIST has the digest 0. */
+    private static int[] pieceOfListZero() {
+        for (int length = 4; length < 64; length++) {
+            int[] bytes = uncut(length, 0);
+            for (int n = 0; n < 1 << 16; n++) {
+                bytes[length - 2] = n >> 8;
+                bytes[length - 1] = n & 255;
+                int piece = digest(PIECE, bytes);
+                int cut = length < 5 ? 1 : bytes[length - 5] + bytes[length - 4] + bytes[length - 3] + bytes[length - 2];
+                if (cut % 16 != 0 && digest(LIST, 0, length, 1, piece >> 8, piece & 255) == 0) {
+                    return bytes;
+                }
+            }
+        }
+        return new int[0];
+    }
+
+    /** The digest 0 is one like others. */
+    private static void fileOfDigestZero() {
+        int[] bytes = pieceOfListZero();
+        OnceStores x = new OnceStores();
+        tape(x, bytes);
+        due("pieces", x.file(0, 0), 1);
+        due("its digest", x.row(1, 1), 0);
+        due("entry", x.entry(0, 1, 0), 1);
+        due("commit", x.commit(0, 0), 0);
+        due("load", x.load(0, 1, -1), bytes.length);
+        x.crash(0);
+        x.sub(0, 2, 0);
+        due("commit", x.commit(0, 0), 1);
+        due("whole", x.broken(), 0);
+
+        int n = 0;
+        while (n < 1 << 24 && digest(PIECE, n >> 16, n >> 8 & 255, n & 255) != 0) {
+            n++;
+        }
+        due("a byte 0 leaves the digest 0", digest(PIECE, n >> 16, n >> 8 & 255, n & 255, 0), 0);
+        x = new OnceStores();
+        tape(x, n >> 16, n >> 8 & 255, n & 255, 0);
+        due("a piece of digest 0", x.file(1, 0), 1);
+        tape(x, n >> 16, n >> 8 & 255, n & 255);
+        due("one that is its beginning", x.file(1, 1), CLASH);
     }
 
     private static void entry() {
@@ -649,26 +693,37 @@ public final class PromisesTest {
         due("a missing snapshot is ahead of none", x.load(0, 8, -1), MISSING);
     }
 
-    /** A LIST whose PIECE is found as another one with the same digest, of four bytes instead of five. */
-    private static void loadOtherLength() {
+    /** A PIECE of five bytes, and one of four with the same digest. */
+    private static int[][] otherLength() {
         int[][] four = new int[65536][];
         for (int i = 0; i < 65536; i++) {
             int[] piece = {7, i >> 8, i & 255, 16 - (7 + (i >> 8) + i) % 16 & 15};
             four[digest(PIECE, piece)] = piece;
         }
-        int[] five = null;
-        for (int i = 0; five == null && i < 256; i++) {
-            int[] piece = {1, 0, 0, 0, i};
-            five = four[digest(PIECE, piece)] != null && i % 16 != 0 ? piece : null;
+        for (int i = 0; i < 256; i++) {
+            int[] five = {1, 0, 0, 0, i};
+            int[] other = four[digest(PIECE, five)];
+            if (other != null && i % 16 != 0) {
+                return new int[][] {five, other};
+            }
         }
-        due("there are such pieces", five != null ? 1 : 0, 1);
+        due("there are such pieces", 0, 1);
+        return new int[][] {{1}, {2}};
+    }
+
+    /** A LIST whose PIECE is found as another one with the same digest, of four bytes instead of five. */
+    private static void loadOtherLength() {
+        int[][] pair = otherLength();
         OnceStores x = new OnceStores();
-        file(x, 0, 0, five);
+        file(x, 0, 0, pair[0]);
         x.entry(0, 1, 0);
         due("commit", x.commit(0, 0), 0);
         due("load", x.load(0, 1, -1), 5);
+        x.cut(5);
+        tape(x, pair[1]);
+        due("another length is another one", x.file(1, 0), CLASH);
         x.spoil(0, 5, 64);
-        file(x, 1, 0, four[digest(PIECE, five)]);
+        file(x, 1, 0, pair[1]);
         due("four bytes instead of five", x.load(0, 1, -1), MISSING);
         due("the tape is empty", x.count(4), 0);
         due("reached by no commit", x.commit(0, 1), MISSING);
@@ -678,6 +733,29 @@ public final class PromisesTest {
         due("the row is true still", x.load(0, 1, -1), MISSING);
         x.anew();
         due("the first in the packs", x.load(0, 1, -1), 5);
+    }
+
+    /** Behind a LIST that has not its n bytes, which makes no index anew, nothing is looked for: a row that lies stays. */
+    private static void endsAtFirst() {
+        int[][] pair = otherLength();
+        OnceStores x = new OnceStores();
+        file(x, 0, 1, 0, 0, 0, 16);
+        file(x, 0, 0, pair[0]);
+        x.entry(0, 1, 0);
+        x.entry(0, 2, 1);
+        due("commit", x.commit(0, 0), 0);
+        x.spoil(0, 19 + 5, 64);
+        file(x, 1, 0, pair[1]);
+        due("the piece of the second file", x.row(0, 1), onePiece());
+        x.lie(0, 77);
+        due("broken", x.broken(), 1);
+        due("bytes", x.head(0, 6), MISSING);
+        due("owned", x.owned(0), MISSING);
+        due("commit", x.commit(0, 0), MISSING);
+        due("load", x.load(0, 1, -1), MISSING);
+        due("it lies still", x.row(0, 3), 77);
+        due("load of the second file", x.load(0, 2, -1), 4);
+        due("now it was looked for", x.row(0, 3), 0);
     }
 
     private static void head() {
@@ -801,6 +879,25 @@ public final class PromisesTest {
         file(x, 0, 0, 0, 0, 0, 16);
         due("clean", x.clean(), 0);
         due("open pack", x.pack(12, 0), 19);
+    }
+
+    /** Seven levels of TREES below the TREE in work are live, though no HEAD is left. */
+    private static void cleanKeepsLevels() {
+        OnceStores x = one();
+        for (int level = 2; level <= 7; level++) {
+            x.remove(0, level == 2 ? 7 : level - 1);
+            due("sub", x.sub(0, level, level - 2), 1);
+            due("commit", x.commit(0, 1), level - 1);
+        }
+        due("sub", x.sub(1, 99, 6), 1);
+        x.crash(0);
+        for (int left = 6; left >= 0; left--) {
+            due("drop", x.drop(0), left);
+        }
+        due("a tree is less than half beside its snapshot", x.clean(), 6);
+        due("commit", x.commit(1, 0), 0);
+        due("whole", x.broken(), 0);
+        due("bytes", x.head(0, 6), 13 + 7 * 4);
     }
 
     private static void cleanFull() {
@@ -941,6 +1038,13 @@ public final class PromisesTest {
         due("fewer bytes", x.pack(0, 1), 4);
         due("right ones", x.pack(0, 2), 2);
         due("bytes stay", x.pack(0, 0), 40);
+        file(x, 0, 0, uncut(320, 0));
+        due("open pack", x.pack(12, 1), 6);
+        x.spoil(12, 1, 1);
+        due("a record of 256 + 64, and what it ends in", x.pack(12, 1), 1);
+        x.spoil(12, 2, 64 ^ 15);
+        due("256 + 15: four records on the old borders", x.pack(12, 1), 3);
+        due("right ones", x.pack(12, 2), 2);
     }
 
     private static void packByte() {
