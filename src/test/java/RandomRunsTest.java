@@ -1,5 +1,7 @@
+import java.lang.reflect.Method;
 import java.util.ArrayDeque;
 import java.util.ArrayList;
+import java.util.Arrays;
 import java.util.Deque;
 import java.util.List;
 import java.util.Map;
@@ -20,6 +22,8 @@ public final class RandomRunsTest {
         "drop BAD", "load BAD", "load NONE", "load MISSING", "head BAD", "head MISSING",
         "owned BAD", "owned MISSING", "clean FULL", "clean 0", "clean 2",
         "spoil BAD", "lie BAD", "broken 0", "broken 3", "pack BAD", "pack NONE", "packByte BAD", "row BAD", "count BAD"};
+
+    private static final Map<String, Method> REAL = callsOf(OnceStores.class), PLAIN = callsOf(PlainStore.class);
 
     private final Random random;
     private final int kind;
@@ -65,8 +69,8 @@ public final class RandomRunsTest {
                 plan();
             }
             Object[] call = planned.poll();
-            int due = onPlain(call);
-            int got = onReal(call);
+            int due = make(PLAIN, plain, call);
+            int got = make(REAL, real, call);
             told.add(name(call) + " -> " + got);
             see((String) call[0], due);
             String other = got != due ? "answer, due is " + due : difference();
@@ -290,69 +294,26 @@ public final class RandomRunsTest {
 
     // ---- making calls
 
-    private static int n(Object[] call, int i) {
-        return (Integer) call[i];
-    }
-
-    private int onReal(Object[] c) {
-        switch ((String) c[0]) {
-            case "feed": return real.feed(n(c, 1), n(c, 2), n(c, 3), n(c, 4), n(c, 5));
-            case "cut": return real.cut(n(c, 1));
-            case "byteOf": return real.byteOf(n(c, 1));
-            case "compare": return real.compare((Boolean) c[1]);
-            case "quota": return real.quota(n(c, 1), n(c, 2));
-            case "file": return real.file(n(c, 1), n(c, 2));
-            case "entry": return real.entry(n(c, 1), n(c, 2), n(c, 3));
-            case "sub": return real.sub(n(c, 1), n(c, 2), n(c, 3));
-            case "remove": return real.remove(n(c, 1), n(c, 2));
-            case "commit": return real.commit(n(c, 1), n(c, 2));
-            case "crash": return real.crash(n(c, 1));
-            case "drop": return real.drop(n(c, 1));
-            case "load": return real.load(n(c, 1), n(c, 2), n(c, 3));
-            case "head": return real.head(n(c, 1), n(c, 2));
-            case "owned": return real.owned(n(c, 1));
-            case "clean": return real.clean();
-            case "spoil": return real.spoil(n(c, 1), n(c, 2), n(c, 3));
-            case "lie": return real.lie(n(c, 1), n(c, 2));
-            case "anew": return real.anew();
-            case "rotten": return real.rotten();
-            case "broken": return real.broken();
-            case "pack": return real.pack(n(c, 1), n(c, 2));
-            case "packByte": return real.packByte(n(c, 1), n(c, 2));
-            case "row": return real.row(n(c, 1), n(c, 2));
-            case "count": return real.count(n(c, 1));
-            default: throw new IllegalStateException(name(c));
+    /** The document's calls of a class, by name. */
+    private static Map<String, Method> callsOf(Class<?> c) {
+        Map<String, Method> calls = new TreeMap<>();
+        for (Method face : OnceStores.class.getMethods()) {
+            if (face.getDeclaringClass() == OnceStores.class) {
+                try {
+                    calls.put(face.getName(), c.getDeclaredMethod(face.getName(), face.getParameterTypes()));
+                } catch (NoSuchMethodException e) {
+                    throw new IllegalStateException(e);
+                }
+            }
         }
+        return calls;
     }
 
-    private int onPlain(Object[] c) {
-        switch ((String) c[0]) {
-            case "feed": return plain.feed(n(c, 1), n(c, 2), n(c, 3), n(c, 4), n(c, 5));
-            case "cut": return plain.cut(n(c, 1));
-            case "byteOf": return plain.byteOf(n(c, 1));
-            case "compare": return plain.compare((Boolean) c[1]);
-            case "quota": return plain.quota(n(c, 1), n(c, 2));
-            case "file": return plain.file(n(c, 1), n(c, 2));
-            case "entry": return plain.entry(n(c, 1), n(c, 2), n(c, 3));
-            case "sub": return plain.sub(n(c, 1), n(c, 2), n(c, 3));
-            case "remove": return plain.remove(n(c, 1), n(c, 2));
-            case "commit": return plain.commit(n(c, 1), n(c, 2));
-            case "crash": return plain.crash(n(c, 1));
-            case "drop": return plain.drop(n(c, 1));
-            case "load": return plain.load(n(c, 1), n(c, 2), n(c, 3));
-            case "head": return plain.head(n(c, 1), n(c, 2));
-            case "owned": return plain.owned(n(c, 1));
-            case "clean": return plain.clean();
-            case "spoil": return plain.spoil(n(c, 1), n(c, 2), n(c, 3));
-            case "lie": return plain.lie(n(c, 1), n(c, 2));
-            case "anew": return plain.anew();
-            case "rotten": return plain.rotten();
-            case "broken": return plain.broken();
-            case "pack": return plain.pack(n(c, 1), n(c, 2));
-            case "packByte": return plain.packByte(n(c, 1), n(c, 2));
-            case "row": return plain.row(n(c, 1), n(c, 2));
-            case "count": return plain.count(n(c, 1));
-            default: throw new IllegalStateException(name(c));
+    private static int make(Map<String, Method> calls, Object on, Object[] call) {
+        try {
+            return (Integer) calls.get((String) call[0]).invoke(on, Arrays.copyOfRange(call, 1, call.length));
+        } catch (ReflectiveOperationException e) {
+            throw new IllegalStateException(name(call), e);
         }
     }
 }
