@@ -1,138 +1,52 @@
 /** Promise by promise: ordinary calls, the edges that the document names, and wrong inputs. */
-public final class PromisesTest {
-    private static final int BAD = -1, NONE = -2, FULL = -3, CLASH = -4, MISSING = -5, OVER = -6;
-    private static final int PIECE = 1, LIST = 2, TREE = 3, SNAPSHOT = 4;
-    /** Two PIECES of four bytes with one digest. */
-    private static final int[] TWIN = {0, 45, 3, 0}, OTHER_TWIN = {0, 45, 2, 33};
-
-    private static int wrong = 0;
-    private static int looked = 0;
-    private static String promise = "";
-
-    private static void due(String what, int got, int want) {
-        looked++;
-        if (got != want) {
-            wrong++;
-            System.out.println(promise + ": " + what + " answered " + got + ", due is " + want);
-        }
-    }
-
+public final class PromisesTest extends Kit {
     public static void main(String[] args) {
-        promise = "promise 1"; newObject();
-        promise = "promise 2"; feed();
-        promise = "promise 3"; cut();
-        promise = "promise 4"; byteOf();
-        promise = "promise 5"; compare();
-        promise = "promise 6"; quota();
-        promise = "promise 7"; filePieces(); fileAnswers(); fileFull(); fileOfDigestZero();
-        promise = "promise 8"; entry();
-        promise = "promise 9"; sub();
-        promise = "promise 10"; remove();
-        promise = "promise 11"; commitBlocks(); commitAnswers(); commitFull(); twentyHeads(); levels(); endsAtFirst();
-        promise = "promise 12"; crash();
-        promise = "promise 13"; drop();
-        promise = "promise 14"; load(); loadOtherLength();
-        promise = "promise 15"; head();
-        promise = "promise 16"; owned();
-        promise = "promise 17"; cleanGoes(); cleanHalf(); cleanKeepsWork(); cleanKeepsLevels(); cleanFull();
-        promise = "promise 18"; spoil();
-        promise = "promise 19"; lie();
-        promise = "promise 20"; anew();
-        promise = "promise 21"; rotten();
-        promise = "promise 22"; broken();
-        promise = "promise 23"; pack();
-        promise = "promise 24"; packByte();
-        promise = "promise 25"; row();
-        promise = "promise 26"; count();
-        System.out.println(looked + " answers looked at, " + wrong + " not as due");
-        if (wrong != 0) {
-            System.exit(1);
-        }
-    }
-
-    // ---- helpers
-
-    private static int digest(int kind, int... bytes) {
-        int h = 5381 + kind;
-        for (int b : bytes) {
-            h = (h * 33 ^ b) & 65535;
-        }
-        return h ^ h >> 5;
-    }
-
-    private static int at(int[] bytes, int i) {
-        return i < bytes.length ? bytes[i] : 0;
-    }
-
-    /** The tape, which is empty before, is these bytes then. */
-    private static void tape(OnceStores x, int... bytes) {
-        int fed = 0;
-        while (fed < bytes.length) {
-            int[] n = new int[5];
-            for (int i = 0; i < 20; i++) {
-                n[i / 4] = n[i / 4] << 8 | at(bytes, fed + i);
-            }
-            fed = x.feed(n[0], n[1], n[2], n[3], n[4]);
-        }
-        due("cut to " + bytes.length, x.cut(fed - bytes.length), bytes.length);
-    }
-
-    private static void file(OnceStores x, int writer, int number, int... bytes) {
-        x.cut(x.count(4));
-        tape(x, bytes);
-        int pieces = x.file(writer, number);
-        due("file has pieces", pieces >= 0 ? 1 : 0, 1);
-    }
-
-    /** A row of n bytes that is cut nowhere but behind 64: four of these together are never a multiple of 16. */
-    private static int[] uncut(int n, int salt) {
-        int[] bytes = new int[n];
-        for (int i = 0; i < n; i++) {
-            int high = (i * i + 37 * salt + 5 * i * (i / 64)) / 2 & 15;
-            bytes[i] = 16 * high + (i % 4 == 0 ? 1 : 0);
-        }
-        return bytes;
-    }
-
-    /** One FILE of the PIECE 0, 0, 0, 16 under the name 7, committed for owner 2: PACK 0 has 40 bytes. */
-    private static OnceStores one() {
-        OnceStores x = new OnceStores();
-        file(x, 0, 0, 0, 0, 0, 16);
-        due("entry", x.entry(0, 7, 0), 1);
-        due("commit", x.commit(0, 2), 0);
-        return x;
-    }
-
-    private static int onePiece() {
-        return digest(PIECE, 0, 0, 0, 16);
-    }
-
-    private static int oneList() {
-        return digest(LIST, 0, 4, 1, onePiece() >> 8, onePiece() & 255);
-    }
-
-    private static int oneTree() {
-        return digest(TREE, 7, 2, oneList() >> 8, oneList() & 255);
-    }
-
-    private static int oneSnapshot() {
-        return digest(SNAPSHOT, 2, 0, 1, 0, 0, oneTree() >> 8, oneTree() & 255);
-    }
-
-    /** Twelve PACKS on the disk: a SNAPSHOT of the same empty TREE in each, for owner 3. */
-    private static OnceStores fullDisk() {
-        OnceStores x = new OnceStores();
-        for (int i = 0; i < 12; i++) {
-            due("commit " + i, x.commit(1, 3), i);
-        }
-        due("packs", x.count(1), 12);
-        return x;
+        test("promise 1", PromisesTest::newObject);
+        test("promise 2", PromisesTest::feed);
+        test("promise 3", PromisesTest::cut);
+        test("promise 4", PromisesTest::byteOf);
+        test("promise 5", PromisesTest::compare);
+        test("promise 6", PromisesTest::quota);
+        test("promise 7", PromisesTest::filePieces);
+        test("promise 7", PromisesTest::fileAnswers);
+        test("promise 7", PromisesTest::fileFull);
+        test("promise 7", PromisesTest::fileOfDigestZero);
+        test("promise 8", PromisesTest::entry);
+        test("promise 9", PromisesTest::sub);
+        test("promise 10", PromisesTest::remove);
+        test("promise 11", PromisesTest::commitBlocks);
+        test("promise 11", PromisesTest::commitAnswers);
+        test("promise 11", PromisesTest::commitFull);
+        test("promise 11", PromisesTest::twentyHeads);
+        test("promise 11", PromisesTest::levels);
+        test("promise 11", PromisesTest::endsAtFirst);
+        test("promise 12", PromisesTest::crash);
+        test("promise 13", PromisesTest::drop);
+        test("promise 14", PromisesTest::load);
+        test("promise 14", PromisesTest::loadOtherLength);
+        test("promise 15", PromisesTest::head);
+        test("promise 16", PromisesTest::owned);
+        test("promise 17", PromisesTest::cleanGoes);
+        test("promise 17", PromisesTest::cleanHalf);
+        test("promise 17", PromisesTest::cleanKeepsWork);
+        test("promise 17", PromisesTest::cleanKeepsLevels);
+        test("promise 17", PromisesTest::cleanFull);
+        test("promise 18", PromisesTest::spoil);
+        test("promise 19", PromisesTest::lie);
+        test("promise 20", PromisesTest::anew);
+        test("promise 21", PromisesTest::rotten);
+        test("promise 22", PromisesTest::broken);
+        test("promise 23", PromisesTest::pack);
+        test("promise 24", PromisesTest::packByte);
+        test("promise 25", PromisesTest::row);
+        test("promise 26", PromisesTest::count);
+        end();
     }
 
     // ---- 1 .. 6
 
     private static void newObject() {
-        OnceStores x = new OnceStores();
+        Watched x = new Watched();
         for (int what = 0; what < 7; what++) {
             due("count(" + what + ")", x.count(what), 0);
         }
@@ -151,7 +65,7 @@ public final class PromisesTest {
     }
 
     private static void feed() {
-        OnceStores x = new OnceStores();
+        Watched x = new Watched();
         due("feed", x.feed(0x01020304, 0x80FF007F, -1, 0, 0x00000005), 20);
         int[] want = {1, 2, 3, 4, 128, 255, 0, 127, 255, 255, 255, 255, 0, 0, 0, 0, 0, 0, 0, 5};
         for (int i = 0; i < 20; i++) {
@@ -170,7 +84,7 @@ public final class PromisesTest {
     }
 
     private static void cut() {
-        OnceStores x = new OnceStores();
+        Watched x = new Watched();
         due("cut(0)", x.cut(0), 0);
         due("cut(1) of none", x.cut(1), BAD);
         x.feed(1, 2, 3, 4, 5);
@@ -184,7 +98,7 @@ public final class PromisesTest {
     }
 
     private static void byteOf() {
-        OnceStores x = new OnceStores();
+        Watched x = new Watched();
         due("byteOf(0) of none", x.byteOf(0), BAD);
         x.feed(0xFE000000, 0, 0, 0, 0xFD);
         due("byteOf(-1)", x.byteOf(-1), BAD);
@@ -196,7 +110,7 @@ public final class PromisesTest {
 
     private static void compare() {
         due("twins have one digest", digest(PIECE, TWIN), digest(PIECE, OTHER_TWIN));
-        OnceStores x = new OnceStores();
+        Watched x = new Watched();
         file(x, 0, 0, TWIN);
         tape(x, OTHER_TWIN);
         due("with compare", x.file(0, 1), CLASH);
@@ -215,7 +129,7 @@ public final class PromisesTest {
     }
 
     private static void quota() {
-        OnceStores x = new OnceStores();
+        Watched x = new Watched();
         due("owner -1", x.quota(-1, 5), BAD);
         due("owner 4", x.quota(4, 5), BAD);
         due("n -1", x.quota(0, -1), BAD);
@@ -233,8 +147,8 @@ public final class PromisesTest {
 
     // ---- 7 .. 12
 
-    private static int pieces(int... bytes) {
-        OnceStores x = new OnceStores();
+    private static int piecesOfFile(int... bytes) {
+        Watched x = new Watched();
         tape(x, bytes);
         int pieces = x.file(0, 0);
         due("the tape is empty then", x.count(4), 0);
@@ -242,20 +156,20 @@ public final class PromisesTest {
     }
 
     private static void filePieces() {
-        due("none", pieces(), 0);
-        due("one byte", pieces(16), 1);
-        due("three with a sum of 16", pieces(16, 0, 0), 1);
-        due("four with a sum of 16", pieces(16, 0, 0, 0), 1);
-        due("a byte behind them", pieces(16, 0, 0, 0, 1), 2);
-        due("the sum of the last four, not of all", pieces(15, 0, 0, 0, 1), 1);
-        due("the last four of five", pieces(1, 15, 1, 0, 0, 5), 2);
-        due("four of a new piece", pieces(0, 0, 0, 0, 0, 0, 0), 2);
-        due("a sum of 17", pieces(17, 0, 0, 0, 0), 1);
-        due("a sum above 255", pieces(255, 255, 255, 3, 1), 2);
-        due("64 bytes", pieces(uncut(64, 0)), 1);
-        due("65 bytes", pieces(uncut(65, 0)), 2);
-        due("129 bytes", pieces(uncut(129, 0)), 3);
-        OnceStores x = new OnceStores();
+        due("none", piecesOfFile(), 0);
+        due("one byte", piecesOfFile(16), 1);
+        due("three with a sum of 16", piecesOfFile(16, 0, 0), 1);
+        due("four with a sum of 16", piecesOfFile(16, 0, 0, 0), 1);
+        due("a byte behind them", piecesOfFile(16, 0, 0, 0, 1), 2);
+        due("the sum of the last four, not of all", piecesOfFile(15, 0, 0, 0, 1), 1);
+        due("the last four of five", piecesOfFile(1, 15, 1, 0, 0, 5), 2);
+        due("four of a new piece", piecesOfFile(0, 0, 0, 0, 0, 0, 0), 2);
+        due("a sum of 17", piecesOfFile(17, 0, 0, 0, 0), 1);
+        due("a sum above 255", piecesOfFile(255, 255, 255, 3, 1), 2);
+        due("64 bytes", piecesOfFile(uncut(64, 0)), 1);
+        due("65 bytes", piecesOfFile(uncut(65, 0)), 2);
+        due("129 bytes", piecesOfFile(uncut(129, 0)), 3);
+        Watched x = new Watched();
         for (int i = 0; i < 20; i++) {
             x.feed(0, 0, 0, 0, 0);
         }
@@ -267,7 +181,7 @@ public final class PromisesTest {
     }
 
     private static void fileAnswers() {
-        OnceStores x = new OnceStores();
+        Watched x = new Watched();
         tape(x, 0, 0, 0, 16, 1);
         due("writer -1", x.file(-1, 0), BAD);
         due("writer 2", x.file(2, 0), BAD);
@@ -294,7 +208,7 @@ public final class PromisesTest {
     }
 
     private static void fileFull() {
-        OnceStores x = fullDisk();
+        Watched x = fullDisk();
         file(x, 0, 0, 0, 0, 0, 16);
         tape(x, 0, 0, 0, 16);
         due("flush of the other one's", x.file(1, 0), FULL);
@@ -321,8 +235,9 @@ public final class PromisesTest {
 
     /** A PIECE, cut nowhere but at its end, whose LIST has the digest 0. */
     private static int[] pieceOfListZero() {
-        for (int length = 4; length < 64; length++) {
-            int[] bytes = uncut(length, 0);
+        for (int i = 0; i < 600; i++) {
+            int length = 4 + i % 60;
+            int[] bytes = uncut(length, i / 60);
             for (int n = 0; n < 1 << 16; n++) {
                 bytes[length - 2] = n >> 8;
                 bytes[length - 1] = n & 255;
@@ -339,7 +254,7 @@ public final class PromisesTest {
     /** The digest 0 is one like others. */
     private static void fileOfDigestZero() {
         int[] bytes = pieceOfListZero();
-        OnceStores x = new OnceStores();
+        Watched x = new Watched();
         tape(x, bytes);
         due("pieces", x.file(0, 0), 1);
         due("its digest", x.row(1, 1), 0);
@@ -356,7 +271,7 @@ public final class PromisesTest {
             n++;
         }
         due("a byte 0 leaves the digest 0", digest(PIECE, n >> 16, n >> 8 & 255, n & 255, 0), 0);
-        x = new OnceStores();
+        x = new Watched();
         tape(x, n >> 16, n >> 8 & 255, n & 255, 0);
         due("a piece of digest 0", x.file(1, 0), 1);
         tape(x, n >> 16, n >> 8 & 255, n & 255);
@@ -364,7 +279,7 @@ public final class PromisesTest {
     }
 
     private static void entry() {
-        OnceStores x = new OnceStores();
+        Watched x = new Watched();
         file(x, 1, 4, 0, 0, 0, 16);
         file(x, 1, 5, 0, 0, 0, 32);
         due("no such file", x.entry(1, 0, 3), BAD);
@@ -396,7 +311,7 @@ public final class PromisesTest {
     }
 
     private static void sub() {
-        OnceStores x = one();
+        Watched x = one();
         due("writer -1", x.sub(-1, 1, 0), BAD);
         due("writer 2", x.sub(2, 1, 0), BAD);
         due("name -1", x.sub(1, -1, 0), BAD);
@@ -429,7 +344,7 @@ public final class PromisesTest {
     }
 
     private static void remove() {
-        OnceStores x = one();
+        Watched x = one();
         due("name 6", x.remove(0, 6), BAD);
         due("name 8", x.remove(0, 8), BAD);
         due("name -1", x.remove(0, -1), BAD);
@@ -451,7 +366,7 @@ public final class PromisesTest {
     }
 
     private static void commitBlocks() {
-        OnceStores x = one();
+        Watched x = one();
         int[] want = {1, 0, 4, onePiece() >> 8, onePiece() & 255, 0, 0, 0, 16,
             2, 0, 5, oneList() >> 8, oneList() & 255, 0, 4, 1, onePiece() >> 8, onePiece() & 255,
             3, 0, 4, oneTree() >> 8, oneTree() & 255, 7, 2, oneList() >> 8, oneList() & 255,
@@ -476,7 +391,7 @@ public final class PromisesTest {
     }
 
     private static void commitAnswers() {
-        OnceStores x = one();
+        Watched x = one();
         due("writer -1", x.commit(-1, 0), BAD);
         due("writer 2", x.commit(2, 0), BAD);
         due("owner -1", x.commit(0, -1), BAD);
@@ -504,7 +419,7 @@ public final class PromisesTest {
 
     /** A TREE whose digest is that of another one. */
     private static void commitClash() {
-        OnceStores x = new OnceStores();
+        Watched x = new Watched();
         int list = digest(LIST, 0, 0, 0);
         int[] first = new int[65536];
         int a = 0;
@@ -536,7 +451,7 @@ public final class PromisesTest {
     }
 
     private static void commitFull() {
-        OnceStores x = fullDisk();
+        Watched x = fullDisk();
         file(x, 0, 0, 0, 0, 0, 16);
         x.entry(0, 7, 0);
         due("no room", x.commit(0, 0), FULL);
@@ -554,32 +469,8 @@ public final class PromisesTest {
         due("number", x.head(11, 2), 13);
     }
 
-    /**
-     * Each SNAPSHOT takes a PACK, so 20 HEADS need PACKS with more than one: PIECES in PACK 0 are spoiled until they
-     * are the SNAPSHOTS of other PACKS, which then can go.
-     */
     private static void twentyHeads() {
-        OnceStores x = new OnceStores();
-        for (int i = 0; i < 8; i++) {
-            file(x, 0, i, 1 + 16 * i, 0, 0, 1, 0, 0, 1);
-        }
-        due("eight pieces of seven and their lists", x.pack(12, 0), 8 * 22);
-        for (int i = 0; i < 12; i++) {
-            due("commit " + i, x.commit(0, 0), i);
-        }
-        for (int i = 1; i <= 8; i++) {
-            int to = (i - 1) * 22;
-            for (int j = 0; j < 12; j++) {
-                int mask = x.packByte(0, to + j) ^ x.packByte(i, j);
-                if (mask != 0) {
-                    x.spoil(0, to + j, mask);
-                }
-            }
-        }
-        due("eight packs go", x.clean(), 8);
-        for (int i = 12; i < 20; i++) {
-            due("commit " + i, x.commit(0, 0), i);
-        }
+        Watched x = withTwentyHeads();
         file(x, 0, 9, 0, 0, 0, 16);
         x.entry(0, 1, 9);
         int open = x.pack(12, 0);
@@ -590,7 +481,7 @@ public final class PromisesTest {
     }
 
     private static void levels() {
-        OnceStores x = one();
+        Watched x = one();
         int bytes = 13;
         x.entry(0, 7, 0);
         for (int level = 2; level <= 8; level++) {
@@ -609,7 +500,7 @@ public final class PromisesTest {
     }
 
     private static void crash() {
-        OnceStores x = one();
+        Watched x = one();
         due("writer -1", x.crash(-1), BAD);
         due("writer 2", x.crash(2), BAD);
         file(x, 1, 0, 0, 0, 0, 32);
@@ -633,7 +524,7 @@ public final class PromisesTest {
     // ---- 13 .. 16
 
     private static void drop() {
-        OnceStores x = one();
+        Watched x = one();
         due("commit", x.commit(0, 1), 1);
         due("commit", x.commit(0, 0), 2);
         due("-1", x.drop(-1), BAD);
@@ -649,7 +540,7 @@ public final class PromisesTest {
     }
 
     private static void load() {
-        OnceStores x = one();
+        Watched x = one();
         x.sub(0, 9, 0);
         due("commit", x.commit(0, 0), 1);
         tape(x, 5);
@@ -676,7 +567,7 @@ public final class PromisesTest {
         loadMissing(x);
     }
 
-    private static void loadMissing(OnceStores x) {
+    private static void loadMissing(Watched x) {
         int[] places = {8, 14, 27, 39};
         for (int place : places) {
             x.spoil(0, place, 64);
@@ -714,7 +605,7 @@ public final class PromisesTest {
     /** A LIST whose PIECE is found as another one with the same digest, of four bytes instead of five. */
     private static void loadOtherLength() {
         int[][] pair = otherLength();
-        OnceStores x = new OnceStores();
+        Watched x = new Watched();
         file(x, 0, 0, pair[0]);
         x.entry(0, 1, 0);
         due("commit", x.commit(0, 0), 0);
@@ -738,7 +629,7 @@ public final class PromisesTest {
     /** Behind a LIST that has not its n bytes, which makes no index anew, nothing is looked for: a row that lies stays. */
     private static void endsAtFirst() {
         int[][] pair = otherLength();
-        OnceStores x = new OnceStores();
+        Watched x = new Watched();
         file(x, 0, 1, 0, 0, 0, 16);
         file(x, 0, 0, pair[0]);
         x.entry(0, 1, 0);
@@ -759,7 +650,7 @@ public final class PromisesTest {
     }
 
     private static void head() {
-        OnceStores x = one();
+        Watched x = one();
         int[] want = {oneSnapshot(), 2, 1, 0, oneTree(), 1, 13};
         due("head -1", x.head(-1, 0), BAD);
         due("head 1", x.head(1, 0), BAD);
@@ -782,7 +673,7 @@ public final class PromisesTest {
     }
 
     private static void owned() {
-        OnceStores x = one();
+        Watched x = one();
         due("owner -1", x.owned(-1), BAD);
         due("owner 4", x.owned(4), BAD);
         due("owner 2", x.owned(2), 13);
@@ -805,7 +696,7 @@ public final class PromisesTest {
     // ---- 17
 
     private static void cleanGoes() {
-        OnceStores x = one();
+        Watched x = one();
         due("all is live", x.clean(), 0);
         file(x, 1, 0, 0, 0, 0, 32);
         x.entry(1, 5, 0);
@@ -832,8 +723,8 @@ public final class PromisesTest {
     }
 
     /** A PIECE of n bytes and its LIST, held by the FILE, beside a TREE and a SNAPSHOT of 21 that nobody reaches. */
-    private static OnceStores partlyLive(int n) {
-        OnceStores x = new OnceStores();
+    private static Watched partlyLive(int n) {
+        Watched x = new Watched();
         file(x, 0, 0, uncut(n, 0));
         x.entry(0, 1, 0);
         due("commit", x.commit(0, 0), 0);
@@ -844,7 +735,7 @@ public final class PromisesTest {
     }
 
     private static void cleanHalf() {
-        OnceStores x = partlyLive(6);
+        Watched x = partlyLive(6);
         due("half of its bytes are live", x.clean(), 0);
         due("it is as it was", x.pack(0, 0), 42);
         due("rows", x.count(0), 4);
@@ -862,7 +753,7 @@ public final class PromisesTest {
     }
 
     private static void cleanKeepsWork() {
-        OnceStores x = one();
+        Watched x = one();
         x.sub(1, 4, 0);
         due("commit", x.commit(1, 0), 1);
         x.crash(0);
@@ -883,7 +774,7 @@ public final class PromisesTest {
 
     /** Seven levels of TREES below the TREE in work are live, though no HEAD is left. */
     private static void cleanKeepsLevels() {
-        OnceStores x = one();
+        Watched x = one();
         for (int level = 2; level <= 7; level++) {
             x.remove(0, level == 2 ? 7 : level - 1);
             due("sub", x.sub(0, level, level - 2), 1);
@@ -901,7 +792,7 @@ public final class PromisesTest {
     }
 
     private static void cleanFull() {
-        OnceStores x = partlyLive(5);
+        Watched x = partlyLive(5);
         for (int i = 0; i < 11; i++) {
             due("commit", x.commit(1, 0), i);
         }
@@ -917,7 +808,7 @@ public final class PromisesTest {
     // ---- 18 .. 26
 
     private static void spoil() {
-        OnceStores x = one();
+        Watched x = one();
         due("pack -1", x.spoil(-1, 0, 1), BAD);
         due("pack 1", x.spoil(1, 0, 1), BAD);
         due("pack 14", x.spoil(14, 0, 1), BAD);
@@ -939,7 +830,7 @@ public final class PromisesTest {
     }
 
     private static void lie() {
-        OnceStores x = one();
+        Watched x = one();
         due("row -1", x.lie(-1, 0), BAD);
         due("row 4", x.lie(4, 0), BAD);
         due("place -1", x.lie(0, -1), BAD);
@@ -959,7 +850,7 @@ public final class PromisesTest {
     }
 
     private static void anew() {
-        OnceStores x = new OnceStores();
+        Watched x = new Watched();
         file(x, 1, 0, 0, 0, 0, 16);
         file(x, 0, 0, 0, 0, 0, 32);
         due("anew for each that is new: 12", x.row(0, 2), 12);
@@ -982,7 +873,7 @@ public final class PromisesTest {
     }
 
     private static void rotten() {
-        OnceStores x = one();
+        Watched x = one();
         due("none", x.rotten(), 0);
         x.spoil(0, 3, 1);
         due("a digest", x.rotten(), 1);
@@ -998,7 +889,7 @@ public final class PromisesTest {
     }
 
     private static void broken() {
-        OnceStores x = one();
+        Watched x = one();
         file(x, 1, 0, 0, 0, 0, 32);
         x.entry(1, 1, 0);
         due("commit", x.commit(1, 0), 1);
@@ -1017,7 +908,7 @@ public final class PromisesTest {
     }
 
     private static void pack() {
-        OnceStores x = one();
+        Watched x = one();
         due("pack -1", x.pack(-1, 0), BAD);
         due("pack 14", x.pack(14, 0), BAD);
         due("what -1", x.pack(0, -1), BAD);
@@ -1048,7 +939,7 @@ public final class PromisesTest {
     }
 
     private static void packByte() {
-        OnceStores x = one();
+        Watched x = one();
         due("pack -1", x.packByte(-1, 0), BAD);
         due("pack 1", x.packByte(1, 0), BAD);
         due("pack 14", x.packByte(14, 0), BAD);
@@ -1062,7 +953,7 @@ public final class PromisesTest {
     }
 
     private static void row() {
-        OnceStores x = one();
+        Watched x = one();
         int[][] want = {{1, onePiece(), 0, 0}, {2, oneList(), 0, 9}, {3, oneTree(), 0, 19}, {4, oneSnapshot(), 0, 28}};
         for (int i = 0; i < 4; i++) {
             for (int what = 0; what < 4; what++) {
@@ -1079,7 +970,7 @@ public final class PromisesTest {
     }
 
     private static void count() {
-        OnceStores x = one();
+        Watched x = one();
         x.feed(0, 0, 0, 0, 0);
         x.sub(1, 1, 0);
         x.sub(1, 2, 0);
