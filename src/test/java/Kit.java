@@ -44,6 +44,14 @@ abstract class Kit {
         }
     }
 
+    static void dueText(String what, String got, String want) {
+        looked++;
+        if (!got.equals(want)) {
+            wrong++;
+            System.out.println(about + ": " + what + " is " + got + ", due is " + want);
+        }
+    }
+
     /** A call with this answer, behind which all is as it was. */
     static void refused(Watched x, String what, IntSupplier call, int want) {
         String before = x.picture();
