@@ -1,9 +1,15 @@
+import java.util.Arrays;
+
 /** The boundary cases of "What it is" and "Terms": a test for each sentence that names one. */
 public final class BlockEdgesTest extends Kit {
     public static void main(String[] args) {
         test("BLOCKS have a KIND", BlockEdgesTest::sameBytesOfTwoKinds);
         test("a block of no bytes", BlockEdgesTest::noBytes);
         test("at most 210 bytes", BlockEdgesTest::mostBytes);
+        test("a DIGEST of 0: a PIECE", BlockEdgesTest::pieceOfZero);
+        test("a DIGEST of 0: a LIST", BlockEdgesTest::listOfZero);
+        test("a DIGEST of 0: a TREE", BlockEdgesTest::treeOfZero);
+        test("a DIGEST of 0: a SNAPSHOT", BlockEdgesTest::snapshotOfZero);
         test("h = (33 h) xor it, its lowest 16 bits", BlockEdgesTest::lowestBits);
         test("numbers of two bytes have the higher one first", BlockEdgesTest::higherFirst);
         test("a PACK: a row of at most 600 bytes", BlockEdgesTest::sixHundred);
@@ -15,6 +21,7 @@ public final class BlockEdgesTest extends Kit {
         test("PACKS 0 .. 11", BlockEdgesTest::twelvePacks);
         test("a RECORD at its place that READING that PACK comes to", BlockEdgesTest::recordInAPiece);
         test("a RECORD at its place", BlockEdgesTest::placesOfLies);
+        test("a RECORD at place 0 of PACK 0", BlockEdgesTest::firstPlace);
         test("of that KIND", BlockEdgesTest::otherKind);
         test("of that DIGEST", BlockEdgesTest::otherDigest);
         test("and RIGHT", BlockEdgesTest::notRight);
@@ -93,6 +100,100 @@ public final class BlockEdgesTest extends Kit {
         due("RIGHT", x.pack(12, 2), 4);
     }
 
+    /** The store of a FILE of these bytes under the name 7; all is asked twice, for what one call leaves to the next. */
+    private static Watched wholeWith(int bytesReached, int... bytes) {
+        Watched x = new Watched();
+        tape(x, bytes);
+        due("one PIECE", x.file(0, 0), 1);
+        due("entry", x.entry(0, 7, 0), 1);
+        due("commit", x.commit(0, 0), 0);
+        for (int i = 0; i < 2; i++) {
+            due("load", x.load(0, 7, -1), bytes.length);
+            due("bytes that it reaches", x.head(0, 6), bytesReached);
+            due("owned", x.owned(0), bytesReached);
+            due("whole", x.broken(), 0);
+        }
+        due("clean", x.clean(), 0);
+        due("kept once", x.commit(0, 0), 1);
+        due("a SNAPSHOT alone", x.pack(1, 0), 12);
+        return x;
+    }
+
+    private static void pieceOfZero() {
+        int[] bytes = forged(PIECE, 0, 1, 1, -1, -1, -1);
+        due("one PIECE", pieces(bytes), 1);
+        Watched x = wholeWith(5 + 5 + 4, bytes);
+        due("its DIGEST", x.row(0, 1), 0);
+        x.cut(x.count(4));
+        tape(x, forged(PIECE, 0, -1, -1, -1));
+        due("other bytes", x.file(0, 1), CLASH);
+    }
+
+    private static void listOfZero() {
+        int[] bytes = pieceOfList(0);
+        Watched x = wholeWith(bytes.length + 5 + 4, bytes);
+        due("its DIGEST", x.row(1, 1), 0);
+        x.drop(1);
+        x.drop(0);
+        x.remove(0, 7);
+        file(x, 0, 1);
+        x.entry(0, 1, 1);
+        due("the FILE holds it", x.clean(), 1);
+        due("load is of no HEAD", x.load(0, 7, -1), BAD);
+        due("it is there", x.rowOf(LIST, 0) >= 0 ? 1 : 0, 1);
+    }
+
+    private static void treeOfZero() {
+        int[] names = namesOfTree(0, digest(LIST, 0, 0, 0));
+        Watched x = new Watched();
+        file(x, 0, 0);
+        for (int name : names) {
+            x.entry(0, name, 0);
+        }
+        due("commit", x.commit(0, 0), 0);
+        due("its DIGEST", x.head(0, 4), 0);
+        due("entries", x.head(0, 5), 3);
+        due("bytes that it reaches", x.head(0, 6), 15);
+        due("load", x.load(0, names[2], -1), 0);
+        due("sub", x.sub(1, 1, 0), 1);
+        due("commit", x.commit(1, 0), 1);
+        due("load", x.load(1, 1, names[0]), 0);
+        due("whole", x.broken(), 0);
+        due("owned", x.owned(0), 19);
+        x.drop(0);
+        x.crash(0);
+        due("clean", x.clean(), 0);
+        due("whole", x.broken(), 0);
+    }
+
+    private static void snapshotOfZero() {
+        int[] bytes = null;
+        for (int i = 0; i < 40 && bytes == null; i++) {
+            bytes = forgedOrNull(SNAPSHOT, 0, i % 4, 0, 1 + i / 4, 0, 0, -1, -1);
+        }
+        Watched x = new Watched();
+        for (int made = 1; made < bytes[2]; made++) {
+            due("commit", x.commit(1, 0), 0);
+            x.drop(0);
+        }
+        file(x, 0, 0);
+        for (int name : namesOfTree(bytes[5] << 8 | bytes[6], digest(LIST, 0, 0, 0))) {
+            x.entry(0, name, 0);
+        }
+        due("clean", x.clean() >= 0 ? 1 : 0, 1);
+        due("commit", x.commit(0, bytes[0]), 0);
+        due("its DIGEST", x.head(0, 0), 0);
+        due("its number", x.head(0, 2), bytes[2]);
+        due("bytes that it reaches", x.head(0, 6), 15);
+        due("sub", x.sub(1, 1, 0), 1);
+        due("commit", x.commit(1, 0), 1);
+        due("the one before", x.head(1, 3), 0);
+        due("whole", x.broken(), 0);
+        due("owned", x.owned(bytes[0]), bytes[0] == 0 ? 19 : 15);
+        due("clean", x.clean(), 0);
+        due("drop", x.drop(0), 1);
+    }
+
     private static void higherFirst() {
         Watched x = new Watched();
         file(x, 0, 0, uncut(320, 0));
@@ -145,6 +246,11 @@ public final class BlockEdgesTest extends Kit {
         due("its row", x.row(x.count(0) - 1, 2) * 1000 + x.row(x.count(0) - 1, 3), 12000);
         x = nearlyFull(37);
         due("a PIECE that ends at 600", x.pack(0, 0), 600);
+        x.entry(0, 1, 3);
+        due("commit", x.commit(0, 0), 0);
+        due("load", x.load(0, 1, -1), 37);
+        due("its first byte", x.byteOf(0), uncut(37, 3)[0]);
+        due("its last byte", x.byteOf(36), uncut(37, 3)[36]);
         x = nearlyFull(38);
         due("a PIECE that would end at 601", x.pack(0, 0), 558);
         due("PIECE and LIST are in the open PACK", x.pack(12, 0), 43 + 10);
@@ -290,6 +396,34 @@ public final class BlockEdgesTest extends Kit {
         due("commit", x.commit(0, 2), 0);
         due("the PIECE's place", x.row(2, 3), 79);
         return x;
+    }
+
+    /** Each block that a load through a TREE in a TREE needs is told at the first place of all, one after the other. */
+    private static void firstPlace() {
+        for (int kind = PIECE; kind <= SNAPSHOT; kind++) {
+            Watched x = withRoom();
+            x.remove(0, 7);
+            x.sub(0, 8, 0);
+            due("commit", x.commit(0, 1), 1);
+            int[] old = x.bytesOf(0);
+            int[] places = {79, 88, 98, 107};
+            int at = places[kind - 1];
+            int length = old[at + 2];
+            int digest = old[at + 3] << 8 | old[at + 4];
+            forge(x, 0, 0, kind, digest, Arrays.copyOfRange(old, at + 5, at + 5 + length));
+            x.anew();
+            due("KIND " + kind + " is told there", x.rowOf(kind, digest), 0);
+            due("load", x.load(1, 8, 7), 4);
+            due("load of HEAD 0", x.load(0, 7, -1), 4);
+            due("entries", x.head(0, 5), 1);
+            due("bytes that it reaches", x.head(1, 6), 4 + 13);
+            due("sub", x.sub(1, 1, 0), 1);
+            due("owned", x.owned(2), 13);
+            due("whole", x.broken(), 0);
+            file(x, 1, 1, 0, 0, 0, 16);
+            due("it is kept once", x.pack(13, 0), 0);
+            due("commit", x.commit(0, 1), 2);
+        }
     }
 
     private static void otherKind() {

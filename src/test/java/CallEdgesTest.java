@@ -68,6 +68,9 @@ public final class CallEdgesTest extends Kit {
 
     private static void nothingIsKept() {
         Watched x = new Watched();
+        for (int what = 0; what < 7; what++) {
+            due("count " + what, x.count(what), 0);
+        }
         refused(x, "byteOf", () -> x.byteOf(0), BAD);
         refused(x, "cut of 1", () -> x.cut(1), BAD);
         refused(x, "cut of 0", () -> x.cut(0), 0);
@@ -92,9 +95,6 @@ public final class CallEdgesTest extends Kit {
         }
         due("rotten", x.rotten(), 0);
         due("broken", x.broken(), 0);
-        for (int what = 0; what < 7; what++) {
-            due("count " + what, x.count(what), 0);
-        }
     }
 
     private static void firstSettings() {

@@ -21,6 +21,8 @@ public final class CleaningEdgesTest extends Kit {
         test("a TREE that is not such a one is LIVE itself", CleaningEdgesTest::notSuchATree);
         test("a LIST that is not such a one is LIVE itself", CleaningEdgesTest::notSuchAList);
         test("TREES beyond the eighth level are not", CleaningEdgesTest::beyondTheEighth);
+        test("TREES beyond the eighth level of a TREE in work are not", CleaningEdgesTest::beyondTheEighthOfWork);
+        test("LIVE: by KIND and DIGEST", CleaningEdgesTest::liveOfOneKind);
         test("PACKS 0 .. 11, by number", CleaningEdgesTest::byNumber);
         test("without a LIVE RECORD: the PACK goes, its rows too", CleaningEdgesTest::goes);
         test("a PACK without a RECORD goes", CleaningEdgesTest::goesWithoutRecords);
@@ -81,10 +83,6 @@ public final class CleaningEdgesTest extends Kit {
 
     private static String pieceAndList(int... piece) {
         return block(PIECE, digest(PIECE, piece)) + block(LIST, listOfOne(piece));
-    }
-
-    private static int treeOf(int name, int list) {
-        return digest(TREE, joined(row(name, 2), two(list)));
     }
 
     // ---- what is LIVE
@@ -304,6 +302,46 @@ public final class CleaningEdgesTest extends Kit {
             due("clean", x.clean() > 0 ? 1 : 0, 1);
             due("the forged TREE is LIVE", x.rowOf(TREE, oneTree()) >= 0 ? 1 : 0, 1);
             due("the one below the last", x.rowOf(TREE, digest(TREE)) >= 0 ? 1 : 0, levels == 8 ? 0 : 1);
+        }
+    }
+
+    /** The TREE in work is the first level, so the eighth TREE below it is of the ninth. */
+    private static void beyondTheEighthOfWork() {
+        for (int below = 7; below <= 8; below++) {
+            Watched x = one();
+            x.remove(0, 7);
+            for (int k = 1; k < below; k++) {
+                x.sub(0, k, k - 1);
+                due("commit", x.commit(0, 1), k);
+                x.remove(0, k);
+            }
+            due("sub", x.sub(1, 99, below - 1), 1);
+            x.crash(0);
+            for (int left = below - 1; left >= 0; left--) {
+                due("drop", x.drop(0), left);
+            }
+            due("clean", x.clean() > 0 ? 1 : 0, 1);
+            due("the TREE " + below + " below", x.rowOf(TREE, oneTree()) >= 0 ? 1 : 0, below == 7 ? 1 : 0);
+            due("its LIST", x.rowOf(LIST, oneList()) >= 0 ? 1 : 0, below == 7 ? 1 : 0);
+        }
+    }
+
+    /** PIECES that nobody reaches have the DIGESTS of a LIST, a TREE and a SNAPSHOT that are LIVE. */
+    private static void liveOfOneKind() {
+        Watched y = twoFiles(A, B);
+        String live = pieceAndList(A) + pieceAndList(B) + treeAndSnapshot(y);
+        int[] digests = {listOfOne(A), y.head(0, 4), y.head(0, 0)};
+        for (int digest : digests) {
+            Watched x = twoFiles(A, B);
+            for (int kind = PIECE; kind <= SNAPSHOT; kind++) {
+                int[] other = forged(kind, digest, 1, 1, -1, -1, -1);
+                if (x.rowOf(kind, digest) < 0) {
+                    forge(x, 0, 69 * kind, kind, digest, other);
+                }
+            }
+            due("three more", x.anew(), 7 + 6 - 3 + 3);
+            due("clean", x.clean(), 1);
+            dueText("DISK", onDisk(x), live);
         }
     }
 

@@ -21,6 +21,7 @@ public final class FileEdgesTest extends Kit {
         test("no more than that (else OVER)", FileEdgesTest::quotaEdge);
         test("a QUOTA of 0", FileEdgesTest::quotaNone);
         test("each KIND and DIGEST once", FileEdgesTest::quotaOnce);
+        test("each KIND: a PIECE and a LIST of one DIGEST", FileEdgesTest::quotaOfTwoKinds);
         test("as it was FOUND first", FileEdgesTest::quotaFoundFirst);
         test("this TREE and then his SNAPSHOTS in HEADS", FileEdgesTest::quotaOfHis);
         test("a SNAPSHOT itself not", FileEdgesTest::quotaWithoutSnapshots);
@@ -132,7 +133,10 @@ public final class FileEdgesTest extends Kit {
         due("entry", x.entry(0, 1, 0), 1);
         due("commit", x.commit(0, 0), 0);
         due("bytes that it reaches", x.head(0, 6), 400 + 17 + 4);
+        tape(x, new int[400]);
         due("load", x.load(0, 1, -1), 400);
+        due("the first byte", x.byteOf(0), uncut(400, 0)[0]);
+        due("the first of the last PIECE", x.byteOf(384), uncut(400, 0)[384]);
         due("the last byte", x.byteOf(399), uncut(400, 0)[399]);
         due("none behind it", x.byteOf(400), BAD);
     }
@@ -338,6 +342,29 @@ public final class FileEdgesTest extends Kit {
         due("and those of a SNAPSHOT of his", x.commit(0, 0), 1);
         due("owned", x.owned(0), bytes);
         due("bytes that it reaches", x.head(0, 6), bytes);
+    }
+
+    private static void quotaOfTwoKinds() {
+        int list = 65535;
+        while (pieceOfList(list) == null) {
+            list--;
+        }
+        int[] first = pieceOfList(list);
+        int[] piece = forged(PIECE, list, 1, 1, -1, -1, -1);
+        due("one PIECE", pieces(piece), 1);
+        due("a DIGEST of 16 bits", list >> 15, 1);
+        int bytes = 8 + first.length + 5 + 5 + 5;
+        for (int quota = bytes - 1; quota <= bytes; quota++) {
+            Watched x = new Watched();
+            file(x, 0, 0, first);
+            file(x, 0, 1, piece);
+            x.entry(0, 1, 0);
+            x.entry(0, 2, 1);
+            due("a PIECE of that DIGEST", x.rowOf(PIECE, list), 2);
+            due("a LIST of that DIGEST", x.rowOf(LIST, list), 1);
+            x.quota(0, quota);
+            due("commit, QUOTA " + quota, x.commit(0, 0), quota < bytes ? OVER : 0);
+        }
     }
 
     /**

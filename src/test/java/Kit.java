@@ -154,6 +154,26 @@ abstract class Kit {
         return listOf(piece.length, digest(PIECE, piece));
     }
 
+    /** The TREE of one LIST under a name. */
+    static int treeOf(int name, int list) {
+        return digest(TREE, joined(row(name, 2), two(list)));
+    }
+
+    /** Three rising names, under which a TREE of one LIST has this DIGEST. */
+    static int[] namesOfTree(int tree, int list) {
+        int[] l = two(list);
+        for (int a = 0; a < 254; a++) {
+            for (int b = a + 1; b < 255; b++) {
+                for (int c = b + 1; c < 256; c++) {
+                    if (digest(TREE, a, 2, l[0], l[1], b, 2, l[0], l[1], c, 2, l[0], l[1]) == tree) {
+                        return row(a, b, c);
+                    }
+                }
+            }
+        }
+        throw new IllegalStateException("no such names");
+    }
+
     static int[] record(int kind, int digest, int... bytes) {
         return joined(row(kind), two(bytes.length), two(digest), bytes);
     }
@@ -186,6 +206,20 @@ abstract class Kit {
             throw new IllegalStateException("no such bytes");
         }
         return chosen;
+    }
+
+    /** A PIECE, not cut inside, whose LIST has this DIGEST. */
+    static int[] pieceOfList(int list) {
+        for (int n = 5; n < 64; n++) {
+            int[] bytes = forgedOrNull(LIST, list, 0, n, 1, -1, -1);
+            int[] piece = uncut(n, 1);
+            piece[0] = piece[1] = piece[n - 1] = -1;
+            piece = bytes == null ? null : forgedOrNull(PIECE, bytes[3] << 8 | bytes[4], piece);
+            if (piece != null && pieces(piece) == 1) {
+                return piece;
+            }
+        }
+        return null;
     }
 
     /** Writes bytes over those of a PACK. */

@@ -31,6 +31,7 @@ public final class ReachEdgesTest extends Kit {
         test("each in order", ReachEdgesTest::inOrder);
         test("each TREE once", ReachEdgesTest::treeOnce);
         test("each LIST once", ReachEdgesTest::listOnce);
+        test("a TREE and a LIST of one DIGEST", ReachEdgesTest::treeAndListOfOneDigest);
         test("LISTS as they were when they were met", ReachEdgesTest::listAsMet);
         test("TREES as they were when they were met", ReachEdgesTest::treeAsMet);
         test("of PIECES one FINDING each time that they are named", ReachEdgesTest::piecesEachTime);
@@ -64,7 +65,7 @@ public final class ReachEdgesTest extends Kit {
         return x;
     }
 
-    private static int treeOf(int... lists) {
+    private static int treeOfLists(int... lists) {
         int[] bytes = row();
         for (int i = 0; i < lists.length; i++) {
             bytes = joined(bytes, row(i + 1, 2), two(lists[i]));
@@ -134,7 +135,7 @@ public final class ReachEdgesTest extends Kit {
             Watched x = files(A);
             String what = bytes.length + " bytes";
             forgeFirst(x, SNAPSHOT, x.head(0, 0), bytes);
-            endsAheadOf(x, what, TREE, treeOf(listOfOne(A)));
+            endsAheadOf(x, what, TREE, treeOfLists(listOfOne(A)));
             due(what + ": its DIGEST needs no block", x.head(0, 0) >= 0 ? 1 : 0, 1);
             for (int ask = 1; ask < 7; ask++) {
                 due(what + ": head(0, " + ask + ")", x.head(0, ask), MISSING);
@@ -145,7 +146,7 @@ public final class ReachEdgesTest extends Kit {
             due(what + ": commit for another owner", x.commit(1, 3), MISSING);
         }
         Watched x = files(A);
-        int[] tree = two(treeOf(listOfOne(A)));
+        int[] tree = two(treeOfLists(listOfOne(A)));
         forgeFirst(x, SNAPSHOT, x.head(0, 0), -1, -1, -1, 0, 0, tree[0], tree[1]);
         due("other 7 bytes are such a one", x.broken(), 0);
         due("its TREE", x.head(0, 5), 1);
@@ -157,7 +158,7 @@ public final class ReachEdgesTest extends Kit {
             {1, 2, a[0], a[1], -1, 2, -1, -1, 2}};
         for (int[] bytes : others) {
             Watched x = files(A, B);
-            int tree = treeOf(listOfOne(A), listOfOne(B));
+            int tree = treeOfLists(listOfOne(A), listOfOne(B));
             forgeFirst(x, TREE, tree, bytes);
             endsAheadOf(x, bytes.length + " bytes", LIST, listOfOne(A));
             due("entries", x.head(0, 5), MISSING);
@@ -170,7 +171,7 @@ public final class ReachEdgesTest extends Kit {
     private static void treeKinds() {
         int[] a = two(listOfOne(A));
         int[] b = two(listOfOne(B));
-        int tree = treeOf(listOfOne(A), listOfOne(B));
+        int tree = treeOfLists(listOfOne(A), listOfOne(B));
         int[] kinds = {0, 1, 4, 5, 255};
         for (int kind : kinds) {
             Watched x = files(A, B);
@@ -195,7 +196,7 @@ public final class ReachEdgesTest extends Kit {
             bytes = joined(bytes, row(i < 3 ? -1 : 20 - i, 2), a);
         }
         Watched x = files(A, B);
-        forgeFirst(x, TREE, treeOf(listOfOne(A), listOfOne(B)), bytes);
+        forgeFirst(x, TREE, treeOfLists(listOfOne(A), listOfOne(B)), bytes);
         due("whole", x.broken(), 0);
         due("entries", x.head(0, 5), 13);
         due("bytes that it reaches", x.head(0, 6), 52 + 5 + 4);
@@ -205,7 +206,8 @@ public final class ReachEdgesTest extends Kit {
     private static void listBytes() {
         int[] a = two(digest(PIECE, A));
         int[][] others = {{-1, -1, 0, -1}, {0, -1, 0, -1, -1}, {0, 4, 2, -1, -1, -1}, {0, -1, 1, a[0], a[1], -1, -1},
-            {0, -1, 3, a[0], a[1], -1, -1}, {0, -1, 2, a[0], a[1], -1, -1, 0}, {0, 4, 255, a[0], a[1], -1, -1, -1}};
+            {0, -1, 3, a[0], a[1], -1, -1}, {0, -1, 2, a[0], a[1], -1, -1, 0}, {0, 4, 255, a[0], a[1], -1, -1, -1},
+            {0, 4, 1, a[0], a[1], -1, -1, -1}};
         for (int[] bytes : others) {
             Watched x = files(A, B);
             forgeFirst(x, LIST, listOfOne(A), bytes);
@@ -232,20 +234,6 @@ public final class ReachEdgesTest extends Kit {
             endsAheadOf(x, length + " bytes", LIST, listOfOne(B));
             due(length + " bytes: load", x.load(0, 1, -1), MISSING);
         }
-    }
-
-    /** A PIECE, not cut inside, whose LIST has this DIGEST. */
-    private static int[] pieceOfList(int list) {
-        for (int n = 5; n < 64; n++) {
-            int[] bytes = forgedOrNull(LIST, list, 0, n, 1, -1, -1);
-            int[] piece = uncut(n, 1);
-            piece[0] = piece[1] = piece[n - 1] = -1;
-            piece = bytes == null ? null : forgedOrNull(PIECE, bytes[3] << 8 | bytes[4], piece);
-            if (piece != null && pieces(piece) == 1) {
-                return piece;
-            }
-        }
-        return null;
     }
 
     private static void listOf401() {
@@ -451,7 +439,7 @@ public final class ReachEdgesTest extends Kit {
         x.drop(0);
         forgeFirst(x, PIECE, digest(PIECE, A), 1, 2, -1, -1, -1);
         endsAheadOf(x, "the third level is behind the second", LIST, listOfOne(B));
-        endsBehind(x, "the TREE is ahead of the LIST", TREE, treeOf(listOfOne(B)));
+        endsBehind(x, "the TREE is ahead of the LIST", TREE, treeOfLists(listOfOne(B)));
     }
 
     private static void inOrder() {
@@ -486,6 +474,24 @@ public final class ReachEdgesTest extends Kit {
         due("broken", x.broken(), 1);
     }
 
+    private static void treeAndListOfOneDigest() {
+        int[] piece = pieceOfList(oneTree());
+        Watched x = one();
+        file(x, 0, 1, piece);
+        x.remove(0, 7);
+        x.entry(0, 1, 1);
+        x.sub(0, 2, 0);
+        due("commit", x.commit(0, 0), 1);
+        int bytes = 8 + 5 + piece.length;
+        due("bytes that it reaches", x.head(1, 6), bytes + 13);
+        x.spoil(0, 24, 1);
+        due("its TREE is needed", x.head(1, 6), MISSING);
+        x.spoil(0, 24, 1);
+        x.spoil(1, 5 + piece.length + 5, 1);
+        due("its LIST is needed", x.head(1, 6), MISSING);
+        due("bytes of the other", x.head(0, 6), 13);
+    }
+
     private static void listAsMet() {
         Watched x = files(joined(A, B, C));
         int list = listOf(12, digest(PIECE, A), digest(PIECE, B), digest(PIECE, C));
@@ -498,7 +504,7 @@ public final class ReachEdgesTest extends Kit {
 
     private static void treeAsMet() {
         Watched x = files(A);
-        int tree = treeOf(listOfOne(A));
+        int tree = treeOfLists(listOfOne(A));
         file(x, 0, 5, B);
         x.remove(0, 1);
         x.sub(0, 1, 0);
