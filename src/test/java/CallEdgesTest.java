@@ -462,6 +462,7 @@ public final class CallEdgesTest extends Kit {
         int[] names = {LEAST, -2, 0, 6, 8, 255, 256 + 7, GREATEST};
         for (int name : names) {
             refused(x, "no such entry: " + name, () -> x.load(1, 255, name), NONE);
+            refused(x, "a LIST with b: " + name, () -> x.load(1, 7, name), NONE);
         }
         x.sub(1, 3, 1);
         due("commit", x.commit(1, 1), 2);

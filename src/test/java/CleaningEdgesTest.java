@@ -32,6 +32,7 @@ public final class CleaningEdgesTest extends Kit {
         test("half of its bytes: those that are nothing, too", CleaningEdgesTest::halfWithNothing);
         test("these come to a new PACK, in order", CleaningEdgesTest::inOrder);
         test("then the old one goes; rows follow", CleaningEdgesTest::rowsFollow);
+        test("rows follow, each in its place of THE INDEX", CleaningEdgesTest::rowsStayInOrder);
         test("FULL: no PACK is free: nothing more is done", CleaningEdgesTest::full);
         test("a PACK that went ahead of it is free", CleaningEdgesTest::freeByThen);
         test("THE INDEX is made ANEW first", CleaningEdgesTest::anewFirst);
@@ -250,8 +251,10 @@ public final class CleaningEdgesTest extends Kit {
     }
 
     private static void notSuchASnapshot() {
-        int snapshot = twoFiles(A, B).head(0, 0);
-        Watched x = withForged(SNAPSHOT, snapshot, 0, 0, 1, 0, 0, -1, -1, -1);
+        Watched x = twoFiles(A, B);
+        int snapshot = x.head(0, 0);
+        int[] tree = two(x.head(0, 4));
+        x = withForged(SNAPSHOT, snapshot, -1, -1, -1, 0, 0, tree[0], tree[1], 9);
         dueText("DISK", onDisk(x), block(SNAPSHOT, snapshot));
     }
 
@@ -486,6 +489,23 @@ public final class CleaningEdgesTest extends Kit {
         same("rows tell the truth, nothing is made anew", x.diskAndIndex(), before);
     }
 
+    /** PACK 0 comes to PACK 2, behind PACK 1; its rows are ahead of those of PACK 1 still. */
+    private static void rowsStayInOrder() {
+        Watched x = heads(A);
+        file(x, 1, 0, B);
+        x.entry(1, 1, 0);
+        due("commit", x.commit(1, 1), 1);
+        due("PACK 1", x.pack(1, 0), 40);
+        due("clean", x.clean(), 1);
+        due("rows", x.count(0), 8);
+        int[] packs = {2, 2, 2, 2, 1, 1, 1, 1};
+        int[] places = {0, 9, 19, 28, 0, 9, 19, 28};
+        for (int i = 0; i < 8; i++) {
+            due("PACK of row " + i, x.row(i, 2), packs[i]);
+            due("place of row " + i, x.row(i, 3), places[i]);
+        }
+    }
+
     /** PACK 0 would be packed anew, PACK 6 would go. */
     private static Watched fullAndPartlyLive() {
         Watched x = partlyLive(5);
@@ -554,9 +574,18 @@ public final class CleaningEdgesTest extends Kit {
         lighten(x, 0);
         file(x, 1, 0, B);
         file(x, 1, 0, C);
-        String before = x.anew() > 0 ? x.diskAndIndex() : "";
+        x.anew();
+        String before = x.diskAndIndex();
         due("clean", x.clean(), 0);
         same("disk and index", x.diskAndIndex(), before);
+        Watched y = one();
+        file(y, 0, 1, B);
+        file(y, 0, 1, A);
+        file(y, 1, 1, C);
+        file(y, 1, 1, 0, 0, 0, 64);
+        due("an open PACK without a LIVE RECORD", y.clean(), 0);
+        due("its bytes", y.pack(12, 0), 19);
+        due("its rows", y.rowOf(LIST, listOfOne(B)), 5);
     }
 
     private static void howMany() {

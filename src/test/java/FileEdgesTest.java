@@ -428,6 +428,8 @@ public final class FileEdgesTest extends Kit {
         x.remove(0, 7);
         x.quota(0, 0);
         due("a SNAPSHOT of another owner", x.commit(0, 0), MISSING);
+        x.entry(0, 7, 0);
+        due("though the TREE alone is above the QUOTA", x.commit(0, 0), MISSING);
     }
 
     private static void overLeaves() {
