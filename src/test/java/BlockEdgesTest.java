@@ -248,6 +248,7 @@ public final class BlockEdgesTest extends Kit {
         due("a PIECE that ends at 600", x.pack(0, 0), 600);
         x.entry(0, 1, 3);
         due("commit", x.commit(0, 0), 0);
+        tape(x, new int[37]);
         due("load", x.load(0, 1, -1), 37);
         due("its first byte", x.byteOf(0), uncut(37, 3)[0]);
         due("its last byte", x.byteOf(36), uncut(37, 3)[36]);

@@ -69,11 +69,17 @@ abstract class Kit {
     // ---- bytes
 
     static int digest(int kind, int... bytes) {
-        int h = 5381 + kind;
-        for (int b : bytes) {
-            h = (h * 33 ^ b) & 65535;
-        }
+        int h = stateOf(5381 + kind, bytes, 0, bytes.length);
         return h ^ h >> 5;
+    }
+
+    /** What h is behind some of the bytes. */
+    private static int stateOf(int before, int[] bytes, int from, int to) {
+        int h = before;
+        for (int i = from; i < to; i++) {
+            h = (h * 33 ^ bytes[i]) & 65535;
+        }
+        return h;
     }
 
     static int[] joined(int[]... rows) {
@@ -180,20 +186,26 @@ abstract class Kit {
 
     /** A block of that KIND with a DIGEST: these bytes, where those that are -1 are chosen so. Null, if there is none. */
     static int[] forgedOrNull(int kind, int digest, int... bytes) {
+        int first = 0;
+        while (first < bytes.length && bytes[first] >= 0) {
+            first++;
+        }
         int free = 0;
         for (int b : bytes) {
             free += b < 0 ? 1 : 0;
         }
+        int[] chosen = bytes.clone();
+        int state = stateOf(5381 + kind, bytes, 0, first);
         for (long n = 0; n < 1L << 8 * free; n++) {
-            int[] chosen = bytes.clone();
             long rest = n;
-            for (int i = bytes.length - 1; i >= 0; i--) {
+            for (int i = bytes.length - 1; i >= first; i--) {
                 if (bytes[i] < 0) {
                     chosen[i] = (int) (rest & 255);
                     rest >>= 8;
                 }
             }
-            if (digest(kind, chosen) == digest) {
+            int h = stateOf(state, chosen, first, bytes.length);
+            if ((h ^ h >> 5) == digest) {
                 return chosen;
             }
         }

@@ -35,12 +35,12 @@ public final class RandomRunsTest {
 
     private RandomRunsTest(long seed, Map<String, Integer> seen) {
         random = new Random(seed);
-        kind = (int) (seed % 6);
+        kind = (int) (seed % 7);
         this.seen = seen;
     }
 
     public static void main(String[] args) {
-        int runs = args.length > 0 ? Integer.parseInt(args[0]) : 360;
+        int runs = args.length > 0 ? Integer.parseInt(args[0]) : 420;
         Map<String, Integer> seen = new TreeMap<>();
         for (int seed = 0; seed < runs; seed++) {
             if (!new RandomRunsTest(seed, seen).run(seed)) {
@@ -206,6 +206,32 @@ public final class RandomRunsTest {
         add("spoil", p, at, mask);
     }
 
+    /** Writes a RECORD into the room of another one: other bytes, often of another length, for a DIGEST that is in use. */
+    private void planForge() {
+        int rows = plain.count(0);
+        int p = pack();
+        int size = plain.pack(p, 0);
+        int place = rows == 0 || below(2) == 0 ? 0 : plain.row(below(rows), 3);
+        int room = place + 5 < size ? plain.packByte(p, place + 1) * 256 + plain.packByte(p, place + 2) : 0;
+        int length = 3 + below(10);
+        if (rows == 0 || room < length + 5 || place + 5 + room > size) {
+            return;
+        }
+        int row = below(rows);
+        int[] block = new int[length];
+        for (int i = 0; i < length; i++) {
+            block[i] = i >= length - 3 ? -1 : below(4) == 0 ? below(256) : below(5);
+        }
+        int[] forged = Kit.forgedOrNull(plain.row(row, 0), plain.row(row, 1), block);
+        if (forged != null) {
+            int[] bytes = Kit.joined(Kit.record(plain.row(row, 0), plain.row(row, 1), forged),
+                    Kit.row(1), Kit.two(room - length - 5), Kit.row(0, 0));
+            for (int i = 0; i < bytes.length; i++) {
+                add("spoil", p, place + i, plain.packByte(p, place + i) ^ bytes[i]);
+            }
+        }
+    }
+
     private void planSpoil() {
         int p = pack();
         add("spoil", p, placeIn(p), below(2) == 0 ? 1 << below(8) : number(255));
@@ -255,7 +281,15 @@ public final class RandomRunsTest {
             planDeep();
             return;
         }
-        if ((kind == 1 || kind == 4) && below(5) == 0) {
+        if (kind == 3 && below(12) == 0) {
+            add("sub", number(1), name(), headNumber());
+            return;
+        }
+        if (kind == 6 && below(8) == 0) {
+            planForge();
+            return;
+        }
+        if ((kind == 1 || kind == 4 || kind == 6) && below(5) == 0) {
             switch (below(4)) {
                 case 0: planTwinSpoil(); break;
                 case 1: planPassingSpoil(); break;
