@@ -211,7 +211,7 @@ public final class BlockEdgesTest extends Kit {
 
     // ---- PACKS
 
-    /** An open PACK of 573 bytes and a FILE of one PIECE more: 15 bytes beside those of the PIECE. */
+    /** An open PACK of 558 bytes and a FILE of one PIECE more, which takes 15 bytes beside those of the PIECE. */
     private static Watched nearlyFull(int piece) {
         Watched x = new Watched();
         file(x, 0, 0, uncut(384, 0));

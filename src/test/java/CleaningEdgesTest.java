@@ -241,11 +241,12 @@ public final class CleaningEdgesTest extends Kit {
         due("five bytes still", x.pack(1, 0), 10 + 10 + 19 + 13 + 12);
     }
 
-    /** A forged block comes to the front of PACK 0; whether the other one of its DIGEST is told is for THE INDEX. */
+    /** A forged block comes to the front of PACK 0, so THE INDEX tells it, and not the one that is behind it. */
     private static Watched withForged(int kind, int digest, int... bytes) {
         Watched x = twoFiles(A, B);
         forge(x, 0, 0, kind, digest, forged(kind, digest, bytes));
-        due("broken by the forged one", x.anew() > 0 ? x.broken() : 0, 1);
+        x.anew();
+        due("broken by the forged one", x.broken(), 1);
         due("clean", x.clean(), 1);
         return x;
     }
@@ -529,7 +530,8 @@ public final class CleaningEdgesTest extends Kit {
         due("clean", x.clean(), FULL);
         due("THE INDEX is made ANEW all the same", x.row(0, 3), 0);
         file(x, 0, 0);
-        due("without the LIVE FILE both go", x.remove(0, 2) == 0 ? x.clean() : -9, 2);
+        due("remove", x.remove(0, 2), 0);
+        due("without the LIVE FILE both go", x.clean(), 2);
         due("PACKS", x.count(1), 10);
     }
 

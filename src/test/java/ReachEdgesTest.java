@@ -48,16 +48,11 @@ public final class ReachEdgesTest extends Kit {
      */
     private static Watched files(int[]... contents) {
         Watched x = new Watched();
-        x.quota(0, 0);
         file(x, 0, 9, uncut(64, 0));
         for (int i = 0; i < contents.length; i++) {
             file(x, 0, i, contents[i]);
             due("entry", x.entry(0, i + 1, i), i + 1);
         }
-        due("the TREES are kept", x.commit(0, 0), contents.length == 0 ? 0 : OVER);
-        x.quota(0, 5000);
-        due("commit", x.commit(0, 0), 0);
-        x.drop(0);
         due("commit of WRITER 1", x.commit(1, 1), 0);
         x.drop(0);
         due("commit", x.commit(0, 0), 0);
